@@ -513,16 +513,16 @@ public final class SeparationMonitor {
         }
 
         static int immediateS(int word) {
-            return word >> 25 << 5 | word >>> 7 & 31;
+            return (word >> 25) << 5 | (word >>> 7 & 31);
         }
 
         static int immediateB(int word) {
-            return word >> 31 << 12 | (word >>> 7 & 1) << 11
+            return (word >> 31) << 12 | (word >>> 7 & 1) << 11
                     | (word >>> 25 & 63) << 5 | (word >>> 8 & 15) << 1;
         }
 
         static int immediateJ(int word) {
-            return word >> 31 << 20 | (word >>> 12 & 255) << 12
+            return (word >> 31) << 20 | (word >>> 12 & 255) << 12
                     | (word >>> 20 & 1) << 11 | (word >>> 21 & 1023) << 1;
         }
 
@@ -570,6 +570,8 @@ public final class SeparationMonitor {
 
     /** What instructions reckon, by their f. */
     private static final class Reckoner {
+        private static final int TOP_BIT = 1 << 31;
+
         private Reckoner() {
         }
 
@@ -613,7 +615,7 @@ public final class SeparationMonitor {
 
         /** With the top bits turned over, the order with sign is the one without. */
         private static boolean lessWithoutSign(int a, int b) {
-            return (a ^ 1 << 31) < (b ^ 1 << 31);
+            return (a ^ TOP_BIT) < (b ^ TOP_BIT);
         }
     }
 
@@ -718,7 +720,7 @@ public final class SeparationMonitor {
                 case Code.JAL:
                     return jump(p, rd, p.pc + Code.immediateJ(word));
                 case Code.JALR:
-                    return jump(p, rd, a + Code.immediateI(word) & ~1);
+                    return jump(p, rd, (a + Code.immediateI(word)) & ~1);
                 case Code.BRANCH:
                     if (Reckoner.branches(f, a, b)) {
                         next = p.pc + Code.immediateB(word);

@@ -88,15 +88,17 @@ public final class CallTest {
     }
 
     private static void openingByTheSameMeasurement() {
-        SeparationMonitor x = Rig.booted(Rig.STOP, 12, Asm.addi(15, 0, Asm.SEAL), Asm.addi(10, 0, 3),
-                Asm.addi(11, 0, -77), Asm.CALL, Asm.addi(15, 0, Asm.OPEN), Asm.addi(11, 0, 0), Asm.CALL);
-        x.run(6);
-        Check.due("x11 before", x.register(0, 11), 0);
-        x.run(1);
-        Check.due("x10", x.register(0, 10), 1);
-        Check.due("x11", x.register(0, 11), -77);
-        Check.due("the slot still holds it", x.object(3, 2), -77 ^ Asm.h(Rig.KEY, x.told(0, 5)));
-        Check.due("PC", x.register(0, 16), 28);
+        for (int slot = 0; slot < 4; slot++) {
+            SeparationMonitor x = Rig.booted(Rig.STOP, 12, Asm.addi(15, 0, Asm.SEAL), Asm.addi(10, 0, slot),
+                    Asm.addi(11, 0, -77), Asm.CALL, Asm.addi(15, 0, Asm.OPEN), Asm.addi(11, 0, 0), Asm.CALL);
+            x.run(6);
+            Check.due("x11 before", x.register(0, 11), 0);
+            x.run(1);
+            Check.due("x10", x.register(0, 10), 1);
+            Check.due("x11", x.register(0, 11), -77);
+            Check.due("the slot still holds it", x.object(slot, 2), -77 ^ Asm.h(Rig.KEY, x.told(0, 5)));
+            Check.due("PC", x.register(0, 16), 28);
+        }
     }
 
     private static void notOpeningByAnother() {

@@ -74,6 +74,12 @@ public final class Promise02RegionTest {
         Check.overlap("over the lower neighbour", () -> x.region(1, 19, 2));
         Check.overlap("over the upper neighbour", () -> x.region(1, 29, 2));
         dueRegion(x, 1, 20, 10);
+        SeparationMonitor y = new SeparationMonitor(1);
+        y.region(1, 20, 1);
+        Check.overlap("one word over one word", () -> y.region(0, 20, 1));
+        Check.overlap("many words over one word", () -> y.region(0, 10, 11));
+        y.region(0, 10, 10);
+        dueRegion(y, 0, 10, 10);
     }
 
     private static void emptyRegionsOverlapNothing() {
