@@ -2,25 +2,29 @@ import java.util.function.IntSupplier;
 
 /** Counts the answers that are not the ones due; a test ends with done(). */
 final class Check {
+    private static String place = "";
     private static int checks = 0;
     private static int wrong = 0;
 
     private Check() {
     }
 
+    /** What is found wrong from now on is told with this place before it. */
+    static void begin(String where) {
+        place = where;
+    }
+
     static void due(String what, int got, int want) {
         checks++;
         if (got != want) {
-            wrong++;
-            System.out.println(what + " answered " + got + ", due is " + want);
+            complain(what + " answered " + got + ", due is " + want);
         }
     }
 
     static void isTrue(String what, boolean holds) {
         checks++;
         if (!holds) {
-            wrong++;
-            System.out.println("does not hold: " + what);
+            complain("does not hold: " + what);
         }
     }
 
@@ -34,6 +38,15 @@ final class Check {
 
     static void overlap(String what, Runnable call) {
         dueThrow(what, call, UnsupportedOperationException.class);
+    }
+
+    static void fine(String what, Runnable call) {
+        checks++;
+        try {
+            call.run();
+        } catch (RuntimeException e) {
+            complain(what + " threw " + e.getClass().getSimpleName() + ", due is nothing");
+        }
     }
 
     /** For calls with an answer, which a Runnable has no place for. */
@@ -52,8 +65,12 @@ final class Check {
             }
             got = e.getClass().getSimpleName();
         }
+        complain(what + " threw " + got + ", due is " + want.getSimpleName());
+    }
+
+    private static void complain(String what) {
         wrong++;
-        System.out.println(what + " threw " + got + ", due is " + want.getSimpleName());
+        System.out.println(place + what);
     }
 
     static void done() {

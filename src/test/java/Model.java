@@ -29,6 +29,11 @@ final class Model {
         }
     }
 
+    /** Thrown where the document leaves the answer free. */
+    static final class Free extends RuntimeException {
+        private static final long serialVersionUID = 1L;
+    }
+
     /** Unwinds an instruction that faults; all that it did was on copies. */
     private static final class Fault extends Exception {
         private static final long serialVersionUID = 1L;
@@ -45,6 +50,8 @@ final class Model {
         int policy;
         boolean ready;
         int[] x = new int[17];
+        /** It had registers before it booted without words: the document does not say what became of them. */
+        boolean hadRegisters;
         int[] image = {};
         int faults;
         int latest;
@@ -88,16 +95,28 @@ final class Model {
     }
 
     void region(int p, int first, int size) {
-        check(in(p, 0, 3) && in(first, 0, 95) && in(size, 0, 32) && in(first + size, 0, 96), !booted);
-        for (int q = 0; q < 4; q++) {
-            for (int i = parts[q].first; q != p && i < parts[q].first + parts[q].size; i++) {
-                if (in(i, first, first + size - 1)) {
-                    throw new UnsupportedOperationException();
-                }
-            }
+        check(in(p, 0, 3) && in(first, 0, 95) && in(size, 0, 32) && in(first + size, 0, 96), true);
+        boolean overlaps = overlaps(p, first, size);
+        if (booted && overlaps) {
+            throw new Free();
+        }
+        check(true, !booted);
+        if (overlaps) {
+            throw new UnsupportedOperationException();
         }
         parts[p].first = first;
         parts[p].size = size;
+    }
+
+    private boolean overlaps(int p, int first, int size) {
+        for (int q = 0; q < 4; q++) {
+            for (int i = parts[q].first; q != p && i < parts[q].first + parts[q].size; i++) {
+                if (in(i, first, first + size - 1)) {
+                    return true;
+                }
+            }
+        }
+        return false;
     }
 
     void load(int i, int v) {
@@ -138,6 +157,7 @@ final class Model {
             part.first = old.first;
             part.size = old.size;
             part.policy = old.policy;
+            part.hadRegisters = part.size == 0 && (old.image.length > 0 || old.hadRegisters);
             parts[k] = part;
             if (part.size == 0) {
                 continue;
@@ -371,6 +391,9 @@ final class Model {
 
     int register(int p, int r) {
         check(in(p, 0, 3) && in(r, 0, 16), booted);
+        if (parts[p].hadRegisters) {
+            throw new Free();
+        }
         return parts[p].x[r];
     }
 
@@ -388,6 +411,9 @@ final class Model {
 
     int object(int c, int what) {
         check(in(c, 0, 3) && in(what, 0, 3), true);
+        if (!booted && what < 2 && hour[c] != -1) {
+            throw new Free();
+        }
         int[][] all = {value, hour, held, mark};
         return all[what][c];
     }

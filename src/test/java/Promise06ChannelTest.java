@@ -1,100 +1,122 @@
-/** Promise 6: channel. */
+/** channel. Who may write and read is in TermAddressesTest. */
+@Of("Promise 6")
 public final class Promise06ChannelTest {
     public static void main(String[] args) {
-        numbersOutOfRangeAreBad();
-        notNowIfBooted();
-        onlyTheSourceWrites();
-        onlyReadersRead();
-        nobodyUsesAChannelAtFirst();
-        anEmptyChannelReadsAsZero();
-        onlyTheLatestValueIsKept();
-        Check.done();
+        Tests.run(Promise06ChannelTest.class);
     }
 
-    private static void numbersOutOfRangeAreBad() {
+    private static void bad(int c, int source, int readers, int period) {
         SeparationMonitor x = new SeparationMonitor(1);
-        int[][] calls = {
-            {-1, 0, 0, 1}, {4, 0, 0, 1}, {0, -2, 0, 1}, {0, 4, 0, 1}, {0, 0, -1, 1}, {0, 0, 16, 1},
-            {0, 0, 0, 0}, {0, 0, 0, 101}, {0, 0, 0, -1}, {0, 0, 0, Integer.MAX_VALUE},
-            {Integer.MIN_VALUE, 0, 0, 1}, {0, Integer.MIN_VALUE, 0, 1}, {0, 0, Integer.MIN_VALUE, 1},
-        };
-        for (int[] c : calls) {
-            Check.bad("channel(" + c[0] + ", " + c[1] + ", " + c[2] + ", " + c[3] + ")",
-                    () -> x.channel(c[0], c[1], c[2], c[3]));
+        Check.bad("channel(" + c + ", " + source + ", " + readers + ", " + period + ")",
+                () -> x.channel(c, source, readers, period));
+    }
+
+    private static void taken(int c, int source, int readers, int period) {
+        SeparationMonitor x = new SeparationMonitor(1);
+        Check.fine("channel(" + c + ", " + source + ", " + readers + ", " + period + ")",
+                () -> x.channel(c, source, readers, period));
+    }
+
+    @Says("CHANNEL c")
+    static void channelsAre0To3() {
+        bad(-1, 0, 0, 1);
+        bad(4, 0, 0, 1);
+        bad(Rig.MIN, 0, 0, 1);
+        bad(Rig.MAX, 0, 0, 1);
+        for (int c = 0; c < 4; c++) {
+            taken(c, 0, 0, 1);
         }
-        x.channel(0, -1, 0, 1);
-        x.channel(3, 3, 15, 100);
     }
 
-    private static void notNowIfBooted() {
-        SeparationMonitor x = Rig.booted(Rig.STOP, 1);
-        Check.notNow("channel when booted", () -> x.channel(0, 0, 0, 1));
-        Check.bad("bad channel when booted", () -> x.channel(0, 0, 0, 0));
-        x.reset();
-        x.channel(0, 0, 0, 1);
+    @Says("source (-1 .. 3)")
+    static void sourcesAreMinus1To3() {
+        bad(0, -2, 0, 1);
+        bad(0, 4, 0, 1);
+        bad(0, Rig.MIN, 0, 1);
+        bad(0, Rig.MAX, 0, 1);
+        for (int source = -1; source < 4; source++) {
+            taken(0, source, 0, 1);
+        }
     }
 
-    private static SeparationMonitor withChannel(int c, int source, int readers, int... program) {
-        SeparationMonitor x = Rig.set(Rig.STOP, 32, program);
-        x.channel(c, source, readers, 100);
-        x.boot();
-        x.run(program.length);
+    @Says("readers (0 .. 15)")
+    static void readersAre0To15() {
+        bad(0, 0, -1, 1);
+        bad(0, 0, 16, 1);
+        bad(0, 0, Rig.MIN, 1);
+        bad(0, 0, Rig.MAX, 1);
+        for (int readers = 0; readers < 16; readers++) {
+            taken(0, 0, readers, 1);
+        }
+    }
+
+    @Says("period")
+    static void periodsAre1To100() {
+        bad(0, 0, 0, 0);
+        bad(0, 0, 0, -1);
+        bad(0, 0, 0, 101);
+        bad(0, 0, 0, Rig.MIN);
+        bad(0, 0, 0, Rig.MAX);
+        for (int period = 1; period <= 100; period++) {
+            taken(0, 0, 0, period);
+        }
+    }
+
+    /** Partition 0 writes 5 into channel 1 and reads it; partition 1 reads it, too. */
+    private static SeparationMonitor reading() {
+        SeparationMonitor x = new SeparationMonitor(1);
+        Rig.place(x, 0, 0, 4, Asm.lui(1, 1), Asm.addi(2, 0, 5), Asm.sw(2, 1, 4), Asm.lw(3, 1, 4));
+        Rig.place(x, 1, 10, 2, Asm.lui(1, 1), Asm.lw(3, 1, 4));
+        x.policy(0, Rig.SKIP);
+        x.policy(1, Rig.SKIP);
+        x.window(0, 4);
+        x.window(1, 2);
         return x;
     }
 
-    private static void onlyTheSourceWrites() {
-        for (int c = 0; c < 4; c++) {
-            int[] program = {Asm.lui(1, 1), Asm.addi(2, 0, 42 + c), Asm.sw(2, 1, 4 * c)};
-            for (int source = -1; source < 4; source++) {
-                SeparationMonitor x = withChannel(c, source, 15, program);
-                String what = "channel " + c + " with source " + source;
-                Check.due(what + ": fault", x.told(0, 2), source == 0 ? 0 : 3);
-                Check.due(what + ": value", x.object(c, 0), source == 0 ? 42 + c : 0);
-                Check.due(what + ": hour", x.object(c, 1), source == 0 ? 3 : -1);
-                Check.due(what + ": another channel", x.object((c + 1) % 4, 1), -1);
-            }
-        }
+    private static void dueRead(SeparationMonitor x, int written, int by0, int by1) {
+        x.boot();
+        x.run(6);
+        Check.due("written", x.object(1, 0), written);
+        Check.due("read by 0", x.register(0, 3), by0);
+        Check.due("read by 1", x.register(1, 3), by1);
+        x.reset();
     }
 
-    private static void onlyReadersRead() {
-        for (int c = 0; c < 4; c++) {
-            int[] program = {Asm.lui(1, 1), Asm.addi(2, 0, 42), Asm.sw(2, 1, 4 * c), Asm.lw(3, 1, 4 * c)};
-            for (int readers = 0; readers < 16; readers++) {
-                SeparationMonitor x = withChannel(c, 0, readers, program);
-                boolean may = readers % 2 == 1;
-                String what = "channel " + c + " with readers " + readers;
-                Check.due(what + ": fault", x.told(0, 2), may ? 0 : 3);
-                Check.due(what + ": read", x.register(0, 3), may ? 42 : 0);
-            }
-        }
-        for (int p = 0; p < 4; p++) {
-            for (int readers = 0; readers < 16; readers++) {
-                SeparationMonitor x = new SeparationMonitor(1);
-                Rig.place(x, p, 20 * p, 2, Asm.lui(1, 1), Asm.lw(3, 1, 8));
-                x.channel(2, -1, readers, 1);
-                x.window(p, 2);
-                x.boot();
-                x.run(2);
-                boolean may = (readers & 1 << p) != 0;
-                Check.due("readers " + readers + ", partition " + p, x.told(p, 1), may ? 0 : 1);
-            }
-        }
+    @Says("CHANNEL c: source (-1 .. 3), readers (0 .. 15), period")
+    static void aChannelIsSetUpAnew() {
+        SeparationMonitor x = reading();
+        x.channel(1, 0, 3, 10);
+        dueRead(x, 5, 5, 5);
+        x.channel(1, 0, 2, 10);
+        dueRead(x, 5, 0, 5);
+        x.channel(1, 0, 1, 10);
+        dueRead(x, 5, 5, 0);
+        x.channel(1, -1, 15, 10);
+        dueRead(x, 0, 0, 0);
+        x.channel(1, 1, 15, 10);
+        dueRead(x, 0, 0, 0);
     }
 
-    private static void nobodyUsesAChannelAtFirst() {
-        Rig.dueFault("LW at first", 3, Asm.lui(1, 1), Asm.lw(2, 1, 0));
-        Rig.dueFault("SW at first", 3, Asm.lui(1, 1), Asm.sw(2, 1, 0));
+    @Says("CHANNEL c: source (-1 .. 3), readers (0 .. 15), period")
+    static void aBadCallLeavesTheChannelAsItIs() {
+        SeparationMonitor x = reading();
+        x.channel(1, 0, 3, 10);
+        Check.bad("a bad period", () -> x.channel(1, -1, 0, 0));
+        Check.bad("bad readers", () -> x.channel(1, -1, 16, 1));
+        Check.bad("a bad source", () -> x.channel(1, 4, 0, 1));
+        dueRead(x, 5, 5, 5);
     }
 
-    private static void anEmptyChannelReadsAsZero() {
-        SeparationMonitor x = withChannel(1, -1, 1, Asm.lui(1, 1), Asm.addi(3, 0, 7), Asm.lw(3, 1, 4));
-        Check.due("fault", x.told(0, 1), 0);
-        Check.due("read of an empty channel", x.register(0, 3), 0);
-    }
-
-    private static void onlyTheLatestValueIsKept() {
-        SeparationMonitor x = withChannel(1, 0, 0, Asm.lui(1, 1), Asm.addi(3, 0, 7), Asm.sw(3, 1, 4), Asm.sw(1, 1, 4));
-        Check.due("value", x.object(1, 0), 4096);
-        Check.due("hour", x.object(1, 1), 4);
+    @Says("Not now if BOOTED")
+    static void notNowIfBooted() {
+        SeparationMonitor x = reading();
+        x.channel(1, 0, 3, 10);
+        x.boot();
+        Check.notNow("channel when booted", () -> x.channel(1, -1, 0, 1));
+        x.reset();
+        dueRead(x, 5, 5, 5);
+        Check.fine("channel after reset", () -> x.channel(1, -1, 0, 1));
+        dueRead(x, 0, 0, 0);
     }
 }

@@ -1,22 +1,76 @@
-/** Promise 14: object. */
+/** object. */
+@Of("Promise 14")
 public final class Promise14ObjectTest {
     public static void main(String[] args) {
-        numbersOutOfRangeAreBad();
-        channelsAndSlotsAreTold();
-        aZeroIsNoEmptiness();
-        aChannelIsEmptiedOnlyByTheNextBoot();
-        Check.done();
+        Tests.run(Promise14ObjectTest.class);
     }
 
-    private static void numbersOutOfRangeAreBad() {
+    @Says("CHANNEL c's")
+    static void numbersAre0To3() {
         SeparationMonitor x = new SeparationMonitor(1);
-        int[][] calls = {{-1, 0}, {4, 0}, {0, -1}, {0, 4}, {Integer.MAX_VALUE, 0}, {0, Integer.MIN_VALUE}};
-        for (int[] c : calls) {
-            Check.bad("object(" + c[0] + ", " + c[1] + ")", Check.call(() -> x.object(c[0], c[1])));
+        x.window(0, 1);
+        int[] none = {-1, 4, Rig.MIN, Rig.MAX};
+        for (int round = 0; round < 2; round++) {
+            for (int c : none) {
+                for (int what = 0; what < 4; what++) {
+                    int w = what;
+                    Check.bad("object(" + c + ", " + what + ")", Check.call(() -> x.object(c, w)));
+                }
+            }
+            if (round == 0) {
+                x.boot();
+            }
         }
     }
 
-    private static void channelsAndSlotsAreTold() {
+    @Says("MARK (3)")
+    static void whatIs0To3() {
+        SeparationMonitor x = new SeparationMonitor(1);
+        int[] none = {-1, 4, 5, Rig.MIN, Rig.MAX};
+        for (int what : none) {
+            Check.bad("object(0, " + what + ")", Check.call(() -> x.object(0, what)));
+        }
+    }
+
+    private static SeparationMonitor writer(int value) {
+        SeparationMonitor x = Rig.set(Rig.STOP, 10, Asm.lui(1, 1), Asm.addi(2, 0, value), Asm.sw(2, 1, 0));
+        x.channel(0, 0, 0, 1);
+        x.boot();
+        return x;
+    }
+
+    @Says("value, 0 if it's empty (what 0)")
+    static void anEmptyChannelHasTheValue0() {
+        SeparationMonitor x = writer(8);
+        x.run(2);
+        Check.due("empty", x.object(0, 0), 0);
+        x.run(1);
+        Check.due("written", x.object(0, 0), 8);
+        x.run(300);
+        Check.due("written, and far older than its period", x.object(0, 0), 8);
+    }
+
+    @Says("hour, -1 if it's empty (1)")
+    static void anEmptyChannelHasTheHourMinus1() {
+        SeparationMonitor x = writer(8);
+        x.run(2);
+        Check.due("empty", x.object(0, 1), -1);
+        x.run(1);
+        Check.due("written", x.object(0, 1), 3);
+        x.run(300);
+        Check.due("later", x.object(0, 1), 3);
+    }
+
+    @Says("hour, -1 if it's empty (1)")
+    static void aChannelThatHolds0IsNotEmpty() {
+        SeparationMonitor x = writer(0);
+        x.run(3);
+        Check.due("value", x.object(0, 0), 0);
+        Check.due("hour", x.object(0, 1), 3);
+    }
+
+    @Says("SLOT c's held (2), MARK (3)")
+    static void channelsAndSlotsOfOneNumberAreApart() {
         SeparationMonitor x = Rig.set(Rig.STOP, 10, Asm.lui(1, 1), Asm.addi(11, 0, -7), Asm.sw(11, 1, 12),
                 Asm.addi(15, 0, Asm.SEAL), Asm.addi(10, 0, 2), Asm.CALL);
         x.channel(3, 0, 0, 1);
@@ -35,27 +89,15 @@ public final class Promise14ObjectTest {
         }
     }
 
-    private static SeparationMonitor writer(int value) {
-        SeparationMonitor x = Rig.set(Rig.STOP, 10, Asm.lui(1, 1), Asm.addi(2, 0, value), Asm.sw(2, 1, 0));
-        x.channel(0, 0, 0, 1);
-        x.boot();
+    @Says("SLOT c's held (2), MARK (3)")
+    static void slotsAreToldWhenItIsNotBooted() {
+        SeparationMonitor x = Rig.booted(Rig.STOP, 10, Asm.addi(15, 0, Asm.SEAL), Asm.addi(11, 0, 3), Asm.CALL);
         x.run(3);
-        return x;
-    }
-
-    private static void aZeroIsNoEmptiness() {
-        SeparationMonitor x = writer(0);
-        Check.due("value", x.object(0, 0), 0);
-        Check.due("hour", x.object(0, 1), 3);
-    }
-
-    private static void aChannelIsEmptiedOnlyByTheNextBoot() {
-        SeparationMonitor x = writer(8);
+        int held = x.object(0, 2);
+        int mark = x.object(0, 3);
+        Check.isTrue("it holds something", held != 0 && mark != 0);
         x.reset();
-        Check.due("value after reset", x.object(0, 0), 8);
-        Check.due("hour after reset", x.object(0, 1), 3);
-        x.boot();
-        Check.due("value after boot", x.object(0, 0), 0);
-        Check.due("hour after boot", x.object(0, 1), -1);
+        Check.due("held", x.object(0, 2), held);
+        Check.due("mark", x.object(0, 3), mark);
     }
 }

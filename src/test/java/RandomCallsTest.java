@@ -146,7 +146,7 @@ public final class RandomCallsTest {
         int[] a = java.util.Arrays.copyOf(given, 4);
         String got = answer(() -> onProgram(name, a));
         String want = answer(() -> onModel(name, a));
-        fine = got.equals(want);
+        fine = got.equals(want) || want.equals(Model.Free.class.getName());
         Check.isTrue("run " + run + ", call " + calls + ": " + name + java.util.Arrays.toString(given) + " answered "
                 + got + ", the model " + want, fine);
     }
