@@ -405,7 +405,8 @@ final class Model {
     int told(int p, int what) {
         check(in(p, 0, 3) && in(what, 0, 8), true);
         Part t = parts[p];
-        int[] all = {t.ready ? 1 : 0, t.faults, t.latest, t.restarts, t.begun, t.measurement, t.policy, t.first, t.size};
+        int[] all = {t.ready ? 1 : 0, t.faults, t.latest, t.restarts, t.begun, t.measurement, t.policy, t.first,
+            t.size};
         return what < 6 && !booted ? 0 : all[what];
     }
 
@@ -423,7 +424,8 @@ final class Model {
             return -1;
         }
         int[] now = booted ? windowAt(time) : new int[3];
-        int[] all = {booted ? 1 : 0, booted ? time : 0, now[0], now[1], booted ? log : 0, now[2], windows.size(), boots};
+        int[] all = {booted ? 1 : 0, booted ? time : 0, now[0], now[1], booted ? log : 0, now[2], windows.size(),
+            boots};
         return all[what];
     }
 }

@@ -18,6 +18,16 @@ public final class TermCallTest {
         Check.due("x1 in the next window", x.register(0, 1), 1);
     }
 
+    @Says("0 YIELD: no more in this WINDOW")
+    static void noOtherCallEndsTheWork() {
+        for (int n = Asm.AGE; n <= Asm.MEASURE; n++) {
+            SeparationMonitor x = Rig.set(Rig.STOP, 3, Asm.addi(15, 0, n), Asm.CALL, Rig.LOOP);
+            x.channel(0, 0, 1, 1);
+            x.boot();
+            Check.due("begun with call " + n, x.run(20), 20);
+        }
+    }
+
     /** Asks for the age of channel c, where the readers of the channels are these. */
     private static SeparationMonitor asker(int c, int... readers) {
         SeparationMonitor x = Rig.set(Rig.STOP, 5, Asm.addi(15, 0, Asm.AGE), Asm.liHigh(10, c), Asm.liLow(10, c),
@@ -57,13 +67,13 @@ public final class TermCallTest {
     @Says("TIME less its hour")
     static void theAgeGoesByTheLatestHour() {
         SeparationMonitor x = Rig.set(Rig.STOP, 12, Asm.lui(1, 1), Asm.addi(15, 0, Asm.AGE), Asm.sw(0, 1, 8),
-                Asm.addi(10, 0, 2), Asm.CALL, Asm.sw(0, 1, 8), Asm.addi(10, 0, 2), Asm.CALL);
+                Asm.addi(10, 0, 2), Asm.CALL, Asm.sw(0, 1, 8), Rig.NOTHING, Asm.addi(10, 0, 2), Asm.CALL);
         x.channel(2, 0, 1, 100);
         x.boot();
         x.run(5);
         Check.due("age", x.register(0, 10), 2);
-        x.run(3);
-        Check.due("age, written anew", x.register(0, 10), 2);
+        x.run(4);
+        Check.due("age, written anew", x.register(0, 10), 3);
         Check.due("faults", x.told(0, 1), 0);
     }
 

@@ -21,7 +21,6 @@ public final class TermRunningTest {
     @Says("TIME is one more, and if the WINDOW's PARTITION")
     static void timeIsOneMoreBeforeTheInstruction() {
         SeparationMonitor x = new SeparationMonitor(1);
-        Rig.place(x, 0, 0, 1, Asm.lui(1, 1));
         Rig.place(x, 1, 4, 2, Asm.lui(1, 1), Asm.sw(1, 1, 0));
         x.channel(0, 1, 0, 1);
         x.window(1, 2);
